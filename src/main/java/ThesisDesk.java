@@ -14,7 +14,7 @@ public final class ThesisDesk {
     // An object is used for 512 calls at most, and a call notes one step: within them it never is full.
     private static final int MOST_NOTES = 1000;
 
-    // Kinds of FORMS, with the numbers that about tells.
+    // Kinds of FORMS, with the numbers that about tells; a node that has no value has its kind as code.
     private static final int CONSTANT = 0;
     private static final int LOCUS = 1;
     private static final int BOUND = 2;
@@ -116,7 +116,7 @@ public final class ThesisDesk {
         if (!isTermOrNone(s, many > 0) || !isTermOrNone(t, many > 1)) {
             throw new IllegalArgumentException("other terms are asked for");
         }
-        work.setOnly(p == NO_FORM ? Code.of(EQUAL, 0) : Code.ofPredicate(p, many));
+        work.setOnly(p == NO_FORM ? EQUAL : Code.ofPredicate(p, many));
         addTerm(s);
         addTerm(t);
         return keepWork();
@@ -176,11 +176,19 @@ public final class ThesisDesk {
     }
 
     public boolean assume(int f) throws IllegalArgumentException, IllegalStateException {
-        return stepOfFormula(ASSUME, closedAt(f));
+        Form form = closedAt(f);
+        if (form == null) {
+            throw new IllegalArgumentException("a closed formula is asked for");
+        }
+        return step(blockForStep(), ASSUME, NO_CODE, form);
     }
 
     public boolean thus(int f) throws IllegalArgumentException, IllegalStateException {
-        return stepOfFormula(THUS, closedAt(f));
+        Form form = closedAt(f);
+        if (form == null) {
+            throw new IllegalArgumentException("a closed formula is asked for");
+        }
+        return step(blockForStep(), THUS, NO_CODE, form);
     }
 
     public boolean take(int t) throws IllegalArgumentException, IllegalStateException {
@@ -251,7 +259,7 @@ public final class ThesisDesk {
 
     public int ways() throws IllegalStateException {
         Block block = waitingBlock();
-        work.setTrue();
+        work.setOnly(TRUE);
         for (Note note = block.latest; note != null; note = note.before) {
             side.load(note.form);
             side.negate();
@@ -400,7 +408,7 @@ public final class ThesisDesk {
                 work.joinRow(side);
                 break;
             default:
-                work.setTrue();
+                work.setOnly(TRUE);
                 break;
         }
     }
@@ -471,7 +479,7 @@ public final class ThesisDesk {
     }
 
     private int endNow(Block block) {
-        work.setTrue();
+        work.setOnly(TRUE);
         for (Note note = block.latest; note != null; note = note.before) {
             tellStep(note);
         }
@@ -484,7 +492,7 @@ public final class ThesisDesk {
     private void tellStep(Note note) {
         if (note.kind == THUS) {
             work.joinForm(note.form);
-        } else if (note.form != null) {
+        } else {
             work.imply(note.form);
         }
         if (note.kind == LET || note.kind == GIVEN) {
@@ -508,13 +516,6 @@ public final class ThesisDesk {
         }
         refuseWhenFull();
         return block;
-    }
-
-    private boolean stepOfFormula(int kind, Form form) {
-        if (form == null) {
-            throw new IllegalArgumentException("a closed formula is asked for");
-        }
-        return step(blockForStep(), kind, NO_CODE, form);
     }
 
     private boolean step(Block block, int kind, int constant, Form form) {
@@ -601,7 +602,7 @@ public final class ThesisDesk {
             }
         }
 
-        /** What about tells of a node beyond its kind; a bound variable is asked alone, so no ALL is in its FORM. */
+        /** What about tells of a FORM's first node; a bound variable that is one has no ALL in its FORM. */
         static int mark(int code) {
             switch (kind(code)) {
                 case PREDICATE:
@@ -640,7 +641,7 @@ public final class ThesisDesk {
         }
 
         int head() {
-            return codes.length > 0 ? codes[0] : Code.of(TRUE, 0);
+            return codes.length > 0 ? codes[0] : TRUE;
         }
 
         boolean isTerm() {
@@ -662,7 +663,7 @@ public final class ThesisDesk {
 
         Row() {
             codes = new int[ROOM];
-            codes[0] = Code.of(TRUE, 0);
+            codes[0] = TRUE;
             size = 1;
         }
 
@@ -672,18 +673,16 @@ public final class ThesisDesk {
             far = false;
         }
 
-        void setTrue() {
-            setOnly(Code.of(TRUE, 0));
-        }
-
-        void setNotTrue() {
-            setTrue();
-            negate();
+        private void setNotTrue() {
+            codes[0] = NOT;
+            codes[1] = TRUE;
+            size = 2;
+            far = false;
         }
 
         void load(Form form) {
             if (form == null) {
-                setTrue();
+                setOnly(TRUE);
             } else {
                 copy(form.codes, form.codes.length);
             }
@@ -717,16 +716,16 @@ public final class ThesisDesk {
             return at >= 0 && at < size && at < ROOM ? codes[at] : NO_CODE;
         }
 
-        private int kindAt(int at) {
-            return Code.kind(codeAt(at));
+        private boolean isAnd() {
+            return Code.kind(codes[0]) == AND;
         }
 
         private boolean isTrue() {
-            return !far && kindAt(0) == TRUE;
+            return !far && codes[0] == TRUE;
         }
 
         private boolean isNotTrue() {
-            return !far && kindAt(0) == NOT && kindAt(1) == TRUE;
+            return !far && codes[0] == NOT && codes[1] == TRUE;
         }
 
         boolean isAlike(Row other) {
@@ -735,11 +734,12 @@ public final class ThesisDesk {
 
         /** Whether the other's codes from its start on stand here. */
         private boolean hasAt(int at, Row other, int start) {
-            if (at < 0 || start < 0 || other.size - start > size - at) {
+            int length = other.size - start;
+            if (at < 0 || start < 0 || length > size - at) {
                 return false;
             }
-            for (int i = start; i < other.size; i++) {
-                if (codeAt(at + i - start) != other.codeAt(i)) {
+            for (int i = 0; i < length && at + i < ROOM && start + i < ROOM; i++) {
+                if (codes[at + i] != other.codes[start + i]) {
                     return false;
                 }
             }
@@ -768,10 +768,10 @@ public final class ThesisDesk {
             if (far) {
                 return;
             }
-            if (kindAt(0) == NOT) {
+            if (codes[0] == NOT) {
                 dropFirst(1);
             } else {
-                putFirst(Code.of(NOT, 0));
+                putFirst(NOT);
             }
         }
 
@@ -791,10 +791,10 @@ public final class ThesisDesk {
         }
 
         private void joinCodes(int[] first, int length) {
-            if (length < 1 || length > first.length || Code.kind(first[0]) == TRUE) {
+            if (length < 1 || length > first.length || first[0] == TRUE) {
                 return;
             }
-            boolean firstIsNotTrue = length == 2 && Code.kind(first[0]) == NOT && Code.kind(first[1]) == TRUE;
+            boolean firstIsNotTrue = length == 2 && first[0] == NOT && first[1] == TRUE;
             if (firstIsNotTrue || isNotTrue()) {
                 setNotTrue();
             } else if (isTrue()) {
@@ -806,17 +806,18 @@ public final class ThesisDesk {
 
         private void putBefore(int[] first, int length) {
             int skipped = Code.kind(first[0]) == AND ? 1 : 0;
-            int own = kindAt(0) == AND ? 1 : 0;
+            int own = isAnd() ? 1 : 0;
             int many = partsIn(first[0]) + partsIn(codes[0]);
             int added = length - skipped;
-            if (added < 0 || 1 + added + size - own > FAR) {
+            int kept = size - own;
+            if (added < 0 || kept < 0 || 1 + added + kept > FAR) {
                 far = true;
                 return;
             }
-            System.arraycopy(codes, own, codes, 1 + added, size - own);
+            System.arraycopy(codes, own, codes, 1 + added, kept);
             System.arraycopy(first, skipped, codes, 1, added);
             codes[0] = Code.of(AND, many);
-            size = 1 + added + size - own;
+            size = 1 + added + kept;
         }
 
         private static int partsIn(int head) {
@@ -825,8 +826,11 @@ public final class ThesisDesk {
 
         /** Becomes NOT AND of the form and NOT of what it was. */
         void imply(Form form) {
+            if (form == null) {
+                return;
+            }
             negate();
-            joinForm(form);
+            joinCodes(form.codes, form.codes.length);
             negate();
         }
 
@@ -836,12 +840,12 @@ public final class ThesisDesk {
             }
             for (int i = 0; i < size && i < ROOM; i++) {
                 if (codes[i] == constant) {
-                    codes[i] = Code.of(BOUND, 0);
+                    codes[i] = BOUND;
                 } else if (Code.kind(codes[i]) == BOUND) {
                     codes[i] = Code.of(BOUND, Code.value(codes[i]) + 1);
                 }
             }
-            putFirst(Code.of(ALL, 0));
+            putFirst(ALL);
         }
 
         void bindSome(int constant) {
@@ -852,12 +856,12 @@ public final class ThesisDesk {
 
         /** Leaves what an ALL speaks of, with the code put in for what it binds. */
         private boolean leaveBody(int code) {
-            if (kindAt(0) != ALL) {
+            if (codes[0] != ALL) {
                 return false;
             }
             dropFirst(1);
             for (int i = 0; i < size && i < ROOM; i++) {
-                if (codes[i] == Code.of(BOUND, 0)) {
+                if (codes[i] == BOUND) {
                     codes[i] = code;
                 } else if (Code.kind(codes[i]) == BOUND) {
                     codes[i] = Code.of(BOUND, Code.value(codes[i]) - 1);
@@ -906,14 +910,14 @@ public final class ThesisDesk {
         /** Leaves AND of the parts behind those that are asked for, if these are the first ones. */
         private boolean leaveOthers(Row asked) {
             if (isAlike(asked)) {
-                setTrue();
+                setOnly(TRUE);
                 return true;
             }
-            int skipped = asked.kindAt(0) == AND ? 1 : 0;
-            if (kindAt(0) != AND || !hasAt(1, asked, skipped)) {
+            int skipped = asked.isAnd() ? 1 : 0;
+            if (!isAnd() || !hasAt(1, asked, skipped)) {
                 return false;
             }
-            int left = partsIn(codeAt(0)) - partsIn(asked.codeAt(0));
+            int left = partsIn(codes[0]) - partsIn(asked.codes[0]);
             dropFirst(1 + asked.size - skipped);
             if (left > 1) {
                 putFirst(Code.of(AND, left));
@@ -927,7 +931,7 @@ public final class ThesisDesk {
         }
 
         private int placeBehindNot() {
-            return kindAt(0) == NOT ? 1 : 0;
+            return codes[0] == NOT ? 1 : 0;
         }
 
         /** Puts a DEFINITION, with the TERMS for its LOCI, in its PREDICATE's place. */
@@ -981,7 +985,7 @@ public final class ThesisDesk {
             if (waits) {
                 return latest != null && !leftInCases;
             }
-            return thesis != null && Code.kind(thesis.head()) == TRUE;
+            return thesis != null && thesis.head() == TRUE;
         }
     }
 }

@@ -35,6 +35,7 @@ public final class PromisesTest {
         count();
         openings();
         notWhole();
+        limits();
         Check.finish();
     }
 
@@ -945,5 +946,30 @@ public final class PromisesTest {
         Check.due("alike", desk.alike(body, f), false);
         int empty = desk.part(desk.bind(false, desk.constant(), f), 0);
         Check.due("what an ALL of nothing speaks of is whole", desk.proof(empty), 1);
+    }
+
+    /** Beyond 512 calls answers are free, but what is kept stays bounded and nothing breaks. */
+    private static void limits() {
+        ThesisDesk desk = new ThesisDesk();
+        int a = nullary(desk);
+        for (int i = 1; i < 1000; i++) {
+            desk.constant();
+        }
+        desk.proof(a);
+        Check.state("a form beyond 1000", desk::constant);
+        Check.state("let beyond 1000", desk::let);
+        Check.state("thesis beyond 1000", desk::thesis);
+        Check.argument("part of none beyond 1000", () -> desk.part(a, 0));
+        Check.argument("about(1000, 0)", () -> desk.about(1000, 0));
+        Check.due("count(0)", desk.count(0), 1000);
+        Check.due("count(4)", desk.count(4), 999);
+        Check.due("count(3)", desk.count(3), 0);
+        desk.now();
+        Check.state("end of a now beyond 1000", desk::end);
+        Check.due("it stays open", desk.count(2), 2);
+        for (int i = 0; i < 1000; i++) {
+            desk.thus(a);
+        }
+        Check.state("a step beyond 1000", () -> desk.thus(a));
     }
 }
