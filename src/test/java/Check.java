@@ -16,6 +16,13 @@ final class Check {
         due(call, got ? 1 : 0, want ? 1 : 0);
     }
 
+    static void due(String call, String got, String want) {
+        if (!got.equals(want)) {
+            wrong++;
+            System.out.println(call + " answered " + got + ", due is " + want);
+        }
+    }
+
     static void argument(String call, Runnable run) {
         thrown(call, run, IllegalArgumentException.class);
     }

@@ -56,7 +56,8 @@ public final class ModelTest {
     private void compareForms(int seed) {
         for (int x = 0; x < model.forms.size(); x++) {
             for (int what = 0; what <= 3; what++) {
-                Check.due("seed " + seed + ": about(" + x + ", " + what + ")", desk.about(x, what), model.about(x, what));
+                String call = "seed " + seed + ": about(" + x + ", " + what + ")";
+                Check.due(call, desk.about(x, what), model.about(x, what));
             }
             int y = random.nextInt(model.forms.size());
             Check.due("seed " + seed + ": alike(" + x + ", " + y + ")", desk.alike(x, y), model.alike(x, y));

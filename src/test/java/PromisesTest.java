@@ -1,7 +1,5 @@
 /** Each promise of the document: ordinary inputs, the edges that it names, wrong inputs. */
-public final class PromisesTest {
-    private static final int NONE = -1;
-
+public final class PromisesTest extends Make {
     public static void main(String[] args) {
         newObject();
         predicate();
@@ -37,43 +35,6 @@ public final class PromisesTest {
         notWhole();
         limits();
         Check.finish();
-    }
-
-    // ---- helpers ----
-
-    private static int nullary(ThesisDesk desk) {
-        return desk.atom(desk.predicate(0), NONE, NONE);
-    }
-
-    private static int truth(ThesisDesk desk) {
-        return desk.join(5, NONE, NONE);
-    }
-
-    private static int not(ThesisDesk desk, int f) {
-        return desk.join(0, f, NONE);
-    }
-
-    private static int and(ThesisDesk desk, int f, int g) {
-        return desk.join(1, f, g);
-    }
-
-    /** AND of f so many times (two or more). */
-    private static int many(ThesisDesk desk, int f, int times) {
-        int all = f;
-        for (int i = 1; i < times; i++) {
-            all = and(desk, all, f);
-        }
-        return all;
-    }
-
-    private static void dueForm(ThesisDesk desk, String call, int got, int want) {
-        Check.due(call + " is alike form " + want, desk.alike(got, want), true);
-    }
-
-    /** Ends the proof, and tells what was left: alike `want`. */
-    private static void dueLeft(ThesisDesk desk, String call, int want) {
-        dueForm(desk, call, desk.thesis(), want);
-        desk.end();
     }
 
     // ---- the promises ----
