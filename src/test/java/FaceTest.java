@@ -6,13 +6,14 @@ import java.util.TreeSet;
 
 /** The class shows the document's face and no other member. */
 public final class FaceTest {
+    // A: throws IllegalArgumentException, S: IllegalStateException.
     private static final String[] FACE = {
-        "int predicate(int)", "boolean define(int,int)", "int constant()", "int locus(int)",
-        "int atom(int,int,int)", "int join(int,int,int)", "int bind(boolean,int,int)", "int proof(int)",
-        "int now()", "int let()", "boolean fit()", "boolean assume(int)", "boolean thus(int)",
-        "boolean take(int)", "boolean given(int,int)", "void cases()", "int suppose(int)", "int end()",
-        "int thesis()", "int ways()", "int about(int,int)", "int part(int,int)", "boolean alike(int,int)",
-        "int count(int)",
+        "int predicate(int) A S", "boolean define(int,int) A", "int constant() S", "int locus(int) A S",
+        "int atom(int,int,int) A S", "int join(int,int,int) A S", "int bind(boolean,int,int) A S",
+        "int proof(int) A S", "int now() S", "int let() S", "boolean fit()", "boolean assume(int) A S",
+        "boolean thus(int) A S", "boolean take(int) A S", "boolean given(int,int) A S", "void cases() S",
+        "int suppose(int) A S", "int end() S", "int thesis() S", "int ways() S", "int about(int,int) A",
+        "int part(int,int) A S", "boolean alike(int,int) A", "int count(int) A",
     };
 
     public static void main(String[] args) {
@@ -47,6 +48,11 @@ public final class FaceTest {
         for (Class<?> type : method.getParameterTypes()) {
             text.append(text.charAt(text.length() - 1) == '(' ? "" : ",").append(type);
         }
-        return text.append(")").toString();
+        text.append(")");
+        for (Class<?> type : method.getExceptionTypes()) {
+            text.append(type == IllegalArgumentException.class ? " A"
+                : type == IllegalStateException.class ? " S" : " " + type);
+        }
+        return text.toString();
     }
 }
